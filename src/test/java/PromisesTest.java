@@ -63,6 +63,7 @@ public final class PromisesTest {
         faultOfWords();
         faultOfNumbers();
         faultOfTooMany();
+        faultOfOneBehindAnother();
         west();
         westStartsAnew();
         evening();
@@ -90,6 +91,7 @@ public final class PromisesTest {
         seen();
         buyers();
         count();
+        fullHouse();
         System.out.println(checks + " answers looked at, " + wrong + " not as due");
         if (wrong != 0) {
             System.exit(1);
@@ -178,6 +180,8 @@ public final class PromisesTest {
         fault("West", 0);
         fault("wes", 0);
         fault("wests", 0);
+        fault("westz", 0);
+        fault("zest", 0);
         fault("westnight", 0);
         fault("west night", 5);
         fault("west5", 4);
@@ -259,6 +263,12 @@ public final class PromisesTest {
         fault(times(7, "clear 1") + ";smoky 99", 56);
         fault(times(7, "clear 1") + ";night;cloudy 9", NONE);
         fault(times(7, "clear 1") + ";west;cloudy 9", NONE);
+        fault("clear 1;night;" + times(7, "clear 1"), NONE);
+        fault("clear 1;night;" + times(8, "clear 1"), 70);
+        fault("clear 1;west;" + times(7, "clear 1"), NONE);
+        fault("clear 1;west;" + times(8, "clear 1"), 69);
+        fault("sick 1 1;west;" + times(5, "sick 1 1"), NONE);
+        fault("sick 1 1;west;" + times(6, "sick 1 1"), 59);
         fault(times(5, "blind 1 1"), NONE);
         fault(times(6, "blind 1 1"), 50);
         fault(times(5, "sick 11 1") + ";dealer", 50);
@@ -272,6 +282,26 @@ public final class PromisesTest {
         faultBehind(times(5, "blind 1 1"), "clear 1;dealer 1 1", 8);
         faultBehind(times(4, "blind 1 1"), "dealer 1 1", NONE);
         faultBehind(times(5, "blind 1 1"), "west;dealer 1 1", NONE);
+    }
+
+    /** Nothing of a text that is gone may be read again. */
+    private static void faultOfOneBehindAnother() {
+        promise = "4 fault";
+        SunsetSale x = new SunsetSale();
+        String[] texts = {"clear 99", "night", "plain 9 100", "west", "clear   7", "clear", "plain 1 1;;", "plain 1", "refund 10", "refund 1"};
+        int[] faults = {6, NONE, 8, NONE, NONE, 5, 10, 7, NONE, NONE};
+        for (int i = 0; i < texts.length; i++) {
+            put(x, texts[i]);
+            due("fault() of '" + texts[i] + "'", x.fault(), faults[i]);
+        }
+        String blanks = " ".repeat(154);
+        fault(blanks + "second", NONE);
+        fault("second" + blanks, NONE);
+        fault("clear " + blanks, 160);
+        fault(blanks + "clear7", NONE);
+        fault(" ".repeat(160), 160);
+        fault("z".repeat(160), 0);
+        fault("clear " + "7".repeat(154), 6);
     }
 
     private static void west() {
@@ -549,12 +579,12 @@ public final class PromisesTest {
         bids(x, NONE, NONE, 10);
         due("alone with the reserve", x.sale(0), 10);
         due("owner", x.evening(4, 3), 2);
-        bids(x, 10, NONE, 11);
-        due("another with the reserve", x.sale(0), 10);
+        bids(x, 11, NONE, 12);
+        due("the second is bidder 0", x.sale(0), 11);
         due("owner", x.evening(5, 3), 2);
         due("nobody bids", x.sale(0), NONE);
-        due("paid so far", x.count(7), 72);
-        due("purse", x.bidder(2, 2), 70);
+        due("paid so far", x.count(7), 73);
+        due("purse", x.bidder(2, 2), 69);
     }
 
     /** Whether the first sales by z are bright at all is told by digits less than the chance. */
@@ -794,6 +824,9 @@ public final class PromisesTest {
         y.sale(0);
         due("all comes back", y.limit(0), 99);
         due("all comes back, of no worth", y.limit(3), 90);
+        SunsetSale z = told("clear 10;plain 1 9;plain 2 9");
+        due("limit 1", z.limit(0), 1);
+        due("limit 2", z.limit(1), 2);
     }
 
     private static void has() {
@@ -862,6 +895,12 @@ public final class PromisesTest {
         due("all of the purse", y.reply(4, 0), 10);
         due("all of the purse", y.reply(4, 1), 495 - 100 + LIFT);
         due("no gain, rather none", y.reply(3, 0), NONE);
+        SunsetSale z = told("clear 5;plain 9 9;plain 9 0");
+        due("a bid of 0", z.reply(0, 0), 0);
+        due("a bid of 0", z.reply(0, 1), 45 + LIFT);
+        due("a bid of 0 by an empty purse", z.reply(1, 0), 0);
+        z.bid(0, 0);
+        due("as much by a later one", z.reply(1, 0), NONE);
     }
 
     private static void tempted() {
@@ -897,6 +936,12 @@ public final class PromisesTest {
         bids(x, 9, 25, 25);
         due("the owner's", x.cartel(0), 15);
         due("the owner's", x.cartel(1), 6);
+        bids(x, 20, 11, 25);
+        due("with bidder 0", x.cartel(0), 10);
+        due("with bidder 0", x.cartel(1), 7);
+        bids(x, 20, 9, 25);
+        due("with bidder 0 alone", x.cartel(0), 10);
+        due("with bidder 0 alone", x.cartel(1), 5);
         bids(x, 9, 9, 25);
         due("nothing to save", x.cartel(0), 0);
         due("nothing to save", x.cartel(1), 5);
@@ -1145,5 +1190,37 @@ public final class PromisesTest {
         due("joy of all", x.count(8), 40 + 5);
         x.sale(0);
         due("tonight, all gone by", x.count(2), 3);
+    }
+
+    /** As many evenings and bidders as there can be, so that no row is too short. */
+    private static void fullHouse() {
+        promise = "20 to 25, with all places taken";
+        SunsetSale x = told("second;" + times(7, "clear 10") + ";" + times(5, "plain 9 9"));
+        bids(x, 5, 6, 7, 8, 9);
+        due("otherwise()", x.otherwise(), 9);
+        due("cartel(0)", x.cartel(0), 8);
+        due("cartel(1)", x.cartel(1), 31);
+        due("has(4)", x.has(4), 10 + LIFT);
+        due("reply(4, 0)", x.reply(4, 0), 9);
+        due("reply(0, 0)", x.reply(0, 0), NONE);
+        due("tempted()", x.tempted(), 0);
+        due("season(4, 0)", x.season(4, 0), 630);
+        due("season(4, 1)", x.season(4, 1), 127);
+        due("bright(7, 0)", x.bright(7, 0), 1);
+        for (int e = 0; e < 7; e++) {
+            x.bid(4, 9);
+            due("sale " + e, x.sale(e), e == 0 ? 8 : 0);
+        }
+        due("score(0)", x.score(0), 175);
+        due("best()", x.best(), 0);
+        due("season(4, 0), all gone by", x.season(4, 0), 0);
+        due("bright(0, 0), all gone by", x.bright(0, 0), 1);
+        due("limit(4), all gone by", x.limit(4), NOT);
+        due("joy", x.bidder(4, 3), 63);
+        due("purse", x.bidder(4, 2), 82);
+        for (int b = 0; b < 5; b++) {
+            x.seen(b, b == 4 ? 0 : 1);
+        }
+        due("buyers()", x.buyers(), 16);
     }
 }
