@@ -163,6 +163,11 @@ public final class BoundariesTest {
     }
 
     private static void atFirst() {
+        says("A new object: No EVENINGS, nobody");
+        SunsetSale empty = new SunsetSale();
+        for (int what = 0; what < 12; what++) {
+            due("count(" + what + ")", empty.count(what), 0);
+        }
         says("RULE is 0 FIRST (as at first), 1 SECOND; RESERVE 0 .. 99 (0 at first); REFUND 0 .. 10 tenths (0 at first)");
         SunsetSale x = new SunsetSale();
         int[] low = {0, 0, 0};
@@ -254,6 +259,16 @@ public final class BoundariesTest {
             fault(told(times(7, "clear 1")), "night;" + word + " 1", NONE);
             fault(told(times(7, "clear 1")), word + " 1;night", 0);
             fault(told(times(7, "clear 1")), "west;" + word + " 1", NONE);
+            fault(told("clear 1"), "night;" + times(7, word + "1"), NONE);
+            fault(told("clear 1"), "night;" + times(8, word + "1"), 6 + 7 * (word.length() + 2));
+            fault(told("clear 1"), "west;" + times(7, word + "1"), NONE);
+            fault(told("clear 1"), "west;" + times(8, word + "1"), 5 + 7 * (word.length() + 2));
+        }
+        SunsetSale x = told(times(6, "clear 1"));
+        for (int again = 0; again < 3; again++) {
+            fault(x, "clear 1", NONE);
+            due("fault() asked again", x.fault(), NONE);
+            fault(x, "clear 1;clear 1", 8);
         }
         says("a BIDDER more, of WORTH W, with P tens, a sixth cannot stand there");
         for (String word : BIDDER_WORDS) {
@@ -265,6 +280,14 @@ public final class BoundariesTest {
             fault(told(times(4, "plain 1 1")), "sick 1 1;" + word + " 1 1", 9);
             fault(told(times(5, "plain 1 1")), "night;" + word + " 1 1", 6);
             fault(told(times(5, "plain 1 1")), "west;" + word + " 1 1", NONE);
+            fault(told("plain 1 1"), "west;" + times(5, word + "1 1"), NONE);
+            fault(told("plain 1 1"), "west;" + times(6, word + "1 1"), 5 + 5 * (word.length() + 4));
+        }
+        SunsetSale y = told(times(4, "plain 1 1"));
+        for (int again = 0; again < 3; again++) {
+            fault(y, "plain 1 1", NONE);
+            due("fault() asked again", y.fault(), NONE);
+            fault(y, "plain 1 1;plain 1 1", 10);
         }
     }
 
@@ -277,6 +300,9 @@ public final class BoundariesTest {
             fault(word.substring(1), 0);
             fault(word.substring(0, word.length() - 1), 0);
             fault(word + "s", 0);
+            for (int i = 0; i < word.length(); i++) {
+                fault(word.substring(0, i) + "x" + word.substring(i + 1), 0);
+            }
         }
         says("small letters a .. z");
         for (String word : BARE_WORDS) {
@@ -377,7 +403,13 @@ public final class BoundariesTest {
         fault("first;  123", 8);
         fault("first  !", 7);
         fault("first", NONE);
-        says("A FAULT is at the first TOKEN that cannot stand there");
+        says("A FAULT is at the first TOKEN that cannot stand there (also behind a text that had another)");
+        SunsetSale x = new SunsetSale();
+        String[] texts = {"clear 99", "night", "plain 9 100", "west", "plain 100 1", "second", "refund 11", "plain 1", "first"};
+        int[] faults = {6, NONE, 8, NONE, 6, NONE, 7, 7, NONE};
+        for (int i = 0; i < texts.length; i++) {
+            fault(x, texts[i], faults[i]);
+        }
         fault("clear 11;dusk;;", 6);
         fault("dusk;clear 11", 0);
         fault("first!second?", 5);
@@ -775,6 +807,7 @@ public final class BoundariesTest {
         due("keep(1), all gone by", x.keep(1), 2);
         x.forget();
         x.erase();
+        wholeCourse();
         says("It is as it was kept, nothing can be undone: TONIGHT");
         due("back(0)", x.back(0), 0);
         due("his bid", x.bidder(0, 4), 5);
@@ -803,6 +836,44 @@ public final class BoundariesTest {
         due("back(0) of a new object", y.back(0), NOT);
         due("keep(0) of a new object", y.keep(0), 0);
         due("back(0) then", y.back(0), 0);
+    }
+
+    /** Of all that a sale, a price and a saying change, nothing may be left behind. */
+    private static void wholeCourse() {
+        SunsetSale x = told("clear 10;clear 10;clear 10;plain 9 9;plain 9 9;refund 1");
+        x.says(2, 2, 8);
+        bids(x, 5, 6);
+        x.keep(0);
+        x.sale(0);
+        x.price(2, 3);
+        x.says(2, 2, 7);
+        bids(x, 8);
+        x.keep(1);
+        int[] early = {0, 90, 0, NONE, 0, NONE, 0, 5, 0, 0};
+        int[] late = {1, 84, 9, 1, 6, 1, 3, 8, 6, 9};
+        for (int turn = 0; turn < 2; turn++) {
+            due("back(0)", x.back(0), 0);
+            course(x, early);
+            due("said", x.says(2, 2, 1), 8);
+            due("back(1)", x.back(1), 1);
+            course(x, late);
+            due("said", x.says(2, 2, 1), 7);
+        }
+        due("back(0)", x.back(0), 0);
+        x.says(2, 2, 6);
+        x.sale(0);
+        x.undo();
+        course(x, early);
+        x.undo();
+        due("said, undone", x.says(2, 2, 6), 8);
+    }
+
+    private static void course(SunsetSale x, int[] want) {
+        int[] got = {x.count(2), x.bidder(1, 2), x.bidder(1, 3), x.evening(0, 3), x.evening(0, 4), x.evening(0, 5),
+            x.evening(2, 2), x.bidder(0, 4), x.count(7), x.count(8)};
+        for (int i = 0; i < want.length; i++) {
+            due("part " + i + " of what is kept and undone", got[i], want[i]);
+        }
     }
 
     private static void gainEdges() {
@@ -844,6 +915,14 @@ public final class BoundariesTest {
         due("51 is below 0", z.gain(0, 0, 51), LIFT - 10);
         due("50 is not", z.gain(0, 0, 50), LIFT);
         due("limit", z.limit(0), 50);
+        SunsetSale w = told("clear 1;clear 10;plain 9 99;plain 11 99;plain 1 99");
+        due("1 is just below 0", w.gain(0, 0, 1), LIFT - 1);
+        due("limit", w.limit(0), 0);
+        due("1 is just not below 0", w.gain(1, 0, 1), LIFT + 1);
+        due("limit", w.limit(1), 1);
+        w.sale(0);
+        due("1 at 0", w.gain(2, 1, 1), LIFT);
+        due("limit", w.limit(2), 1);
     }
 
     private static void hasEdges() {
